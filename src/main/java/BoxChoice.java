@@ -336,19 +336,17 @@ public final class BoxChoice {
         }
 
         int withRoomFor(int size) {
-            int found = 0;
-            for (int box = 0; box < held; box++) {
-                if (size <= rooms[box] - keptSlack) {
-                    found |= 1 << box;
-                }
-            }
-            return found;
+            return withAtLeast(rooms, size + keptSlack);
         }
 
         int thatBear(int weight) {
+            return withAtLeast(loads, weight);
+        }
+
+        private int withAtLeast(int[] numbers, int least) {
             int found = 0;
             for (int box = 0; box < held; box++) {
-                if (weight <= loads[box]) {
+                if (numbers[box] >= least) {
                     found |= 1 << box;
                 }
             }
@@ -451,20 +449,18 @@ public final class BoxChoice {
         }
 
         int sizeOf(int set) {
-            int sum = 0;
-            for (int unit = 0; unit < held; unit++) {
-                if (holds(set, unit)) {
-                    sum += sizes[unit];
-                }
-            }
-            return sum;
+            return sumOf(sizes, set);
         }
 
         int weightOf(int set) {
+            return sumOf(weights, set);
+        }
+
+        private int sumOf(int[] numbers, int set) {
             int sum = 0;
             for (int unit = 0; unit < held; unit++) {
                 if (holds(set, unit)) {
-                    sum += weights[unit];
+                    sum += numbers[unit];
                 }
             }
             return sum;

@@ -401,6 +401,43 @@ public final class PromiseTests {
         dueBoxes(-1, x);
     }
 
+    private static void chooseByRuleThatFailsLeavesNothing() {
+        BoxChoice x = withUnits(2, 10, 1);
+        x.box(10, 9, 4, 1);
+        x.unit(11, 1, 0);
+        dueChoose(-1, x, 2);
+        dueBoxes(-1, x);
+        dueChosen(NO_SUCH, x, 0, 0);
+        dueWhere(-1, x, 0);
+        dueCount(-1, x, 4);
+        dueUsed(STATE, x, 0);
+    }
+
+    private static void chooseGoesUpToAllBoxesAndUnits() {
+        BoxChoice x = withUnits(6, 10, 1);
+        for (int box = 0; box < 6; box++) {
+            x.box(10, 9, 1000 - box, 1);
+        }
+        dueChoose(6 * 995, x, 6);
+        dueChoice(x, 5, 1, 5, 2, 5, 4, 5, 8, 5, 16, 5, 32);
+        x.unit(10, 1, 0);
+        x.unit(10, 1, 0);
+        dueChoose(8 * 995, x, 6);
+        dueWhere(7, x, 7);
+        for (int unit = 0; unit < 8; unit++) {
+            dueBar(0, x, unit);
+            dueFits(true, x, 5, unit);
+        }
+        // A lesser choice must not let what an earlier one had behind its end be seen.
+        for (int unit = 1; unit < 8; unit++) {
+            x.group(0, unit, 2);
+        }
+        dueBar(2, x, 7);
+        dueChoose(-1, x, 6);
+        dueWhere(-1, x, 7);
+        dueChosen(NO_SUCH, x, 7, 0);
+    }
+
     private static void chooseByRuleMayMissWhatExactFinds() {
         BoxChoice x = new BoxChoice();
         x.box(10, 9, 1, 1);
@@ -543,7 +580,10 @@ public final class PromiseTests {
         x.group(0, 1, 2);
         x.group(0, 2, 1);
         dueFits(true, x, 0, 0);
-        dueFits(NO_SUCH, x, 1, 0);
+        x.box(10, 10, 0, 127);
+        dueFits(false, x, 1, 0);
+        dueFits(true, x, 1, 1);
+        dueFits(NO_SUCH, x, 2, 0);
         dueFits(NO_SUCH, x, 0, 4);
         dueFits(NO_SUCH, x, -1, 0);
         dueFits(NO_SUCH, x, 0, -1);
@@ -579,6 +619,12 @@ public final class PromiseTests {
         dueUsed(1, x, 0);
         dueChoose(-1, x, 6);
         dueUsed(STATE, x, 0);
+
+        BoxChoice y = withUnits(1, 7, 1);
+        y.box(10, 9, 1, 1);
+        dueChoose(1, y, 6);
+        dueUsed(7, y, 0);
+        dueUsed(10, y, 1);
     }
 
     private static void dimensional() {
@@ -651,6 +697,8 @@ public final class PromiseTests {
         during("promise 7, apart and together", PromiseTests::chooseKeepsApartAndTogether);
         during("promise 7, by rule", PromiseTests::chooseByRule);
         during("promise 7, by rule with companies", PromiseTests::chooseByRuleTakesCompaniesByOthers);
+        during("promise 7, by rule without a choice", PromiseTests::chooseByRuleThatFailsLeavesNothing);
+        during("promise 7, full", PromiseTests::chooseGoesUpToAllBoxesAndUnits);
         during("promise 7, rule against exact", PromiseTests::chooseByRuleMayMissWhatExactFinds);
         during("promise 8, exact", PromiseTests::exact);
         during("promise 9, boxes", PromiseTests::boxes);
